@@ -117,6 +117,9 @@ final class DependsTest {
         last("SB before a word", -1, Asm.sw(2, 0, 4), Asm.sb(3, -1, 4));
         last("SH over the edge", 1, Asm.sw(2, 0, 4), Asm.sh(3, -1, 4));
         last("LB next to SB", -1, Asm.sb(2, 0, 4), Asm.lb(3, 1, 4));
+        last("LB before SB", -1, Asm.sb(2, 1, 4), Asm.lb(3, 0, 4));
+        last("LBU before SB", -1, Asm.sb(2, 1, 4), Asm.immediate(0x24, 4, 3, 0));
+        last("LB on SB", 1, Asm.sb(2, 1, 4), Asm.lb(3, 1, 4));
         last("LH on SB", 1, Asm.sb(2, 1, 4), Asm.lh(3, 0, 4));
         last("LHU next to SH", -1, Asm.sh(2, 2, 4), Asm.immediate(0x25, 4, 3, 0));
         last("a word in a double", 1, Asm.sdc1(2, 0, 4), Asm.lw(3, 4, 4));

@@ -5,6 +5,8 @@ import java.util.Random;
 final class RandomBlocksTest {
     private static final int ROUNDS = 1000;
     private static final int MOST_CALLS = 512;
+    private static final List<Manual.Entry> MEMORY = Manual.ENTRIES.stream()
+            .filter(entry -> entry.kind == 1 || entry.kind == 2).toList();
 
     private RandomBlocksTest() {
     }
@@ -60,7 +62,8 @@ final class RandomBlocksTest {
 
     /** Registers and offsets so few that instructions often have something in common. */
     private static int word(Random random) {
-        Manual.Entry entry = Manual.ENTRIES.get(random.nextInt(Manual.ENTRIES.size()));
+        Manual.Entry entry = random.nextInt(3) == 0
+                ? any(random, MEMORY) : any(random, Manual.ENTRIES);
         int fields = random.nextInt(6) << 21 | random.nextInt(6) << 16
                 | random.nextInt(6) << 11 | random.nextInt(6) << 6 | random.nextInt(64);
         if (entry.kind == 1 || entry.kind == 2) {
@@ -71,6 +74,10 @@ final class RandomBlocksTest {
             fields |= 31 << 16 | 31 << 21;
         }
         return entry.bits | fields & ~entry.mask;
+    }
+
+    private static Manual.Entry any(Random random, List<Manual.Entry> entries) {
+        return entries.get(random.nextInt(entries.size()));
     }
 
     private static void latencies(Random random, SlotFiller x, Model model) {
