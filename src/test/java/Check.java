@@ -4,12 +4,18 @@ import java.util.List;
 final class Check {
     private static int wrong = 0;
     private static int asked = 0;
+    private static String sentence = "";
 
     private Check() {
     }
 
     interface Call {
         long run();
+    }
+
+    /** The document's words that the checks from here on are about; told with what is wrong. */
+    static void sentence(String words) {
+        sentence = "[" + words + "] ";
     }
 
     static void same(String what, long want, long got) {
@@ -39,6 +45,15 @@ final class Check {
         }
     }
 
+    /** Refused, and everything that the object tells is as it was. */
+    static void refusedUnchanged(
+            String what, Class<? extends RuntimeException> due, SlotFiller filler, Call call) {
+        String before = Seen.of(filler);
+        refused(what, due, call);
+        String after = Seen.of(filler);
+        holds(what + " changed " + before + " into " + after, before.equals(after));
+    }
+
     static void adds(SlotFiller filler, int... words) {
         for (int word : words) {
             filler.add(word);
@@ -53,6 +68,19 @@ final class Check {
         }
     }
 
+    /** What schedule() makes of these words: indices of the block, NONE for a NOP of itself. */
+    static SlotFiller comes(
+            String what, boolean ordering, boolean filling, int[] words, Integer... due) {
+        SlotFiller filler = Blocks.of(words);
+        same(what + ": schedule()", due.length, filler.schedule(ordering, filling));
+        cameFrom(what, filler, due);
+        for (int k = 0; k < due.length && k < filler.count(1); k++) {
+            int word = due[k] == SlotFiller.NONE ? Asm.NOP : words[due[k]];
+            same(what + ": word(" + k + ")", word, filler.word(k));
+        }
+        return filler;
+    }
+
     static void end() {
         System.out.println(asked + " answers, " + wrong + " not as due");
         if (wrong != 0) {
@@ -63,7 +91,7 @@ final class Check {
     private static void tell(String text) {
         wrong++;
         if (wrong <= 50) {
-            System.out.println(text);
+            System.out.println(sentence + text);
         }
     }
 }

@@ -18,9 +18,7 @@ final class DependsTest {
 
     /** The last one on the first one, with those between them. */
     private static void last(String what, int due, int... words) {
-        SlotFiller x = new SlotFiller();
-        Check.adds(x, words);
-        Check.same(what, due, x.depends(words.length - 1, 0));
+        Check.same(what, due, Blocks.lastOnFirst(words));
     }
 
     private static void byReadingAndWriting() {

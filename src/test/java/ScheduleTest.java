@@ -15,22 +15,6 @@ final class ScheduleTest {
         Check.end();
     }
 
-    private static SlotFiller of(int... words) {
-        SlotFiller x = new SlotFiller();
-        Check.adds(x, words);
-        return x;
-    }
-
-    private static void comes(
-            String what, boolean ordering, boolean filling, int[] words, Integer... due) {
-        SlotFiller x = of(words);
-        Check.same(what + ": schedule()", due.length, x.schedule(ordering, filling));
-        Check.cameFrom(what, x, due);
-        for (int k = 0; k < due.length; k++) {
-            Check.same(what + ": word(" + k + ")", due[k] == -1 ? 0 : words[due[k]], x.word(k));
-        }
-    }
-
     private static void empty() {
         SlotFiller x = new SlotFiller();
         Check.same("of no block", 0, x.schedule(true, true));
@@ -42,77 +26,77 @@ final class ScheduleTest {
     }
 
     private static void byHeights() {
-        comes("the highest first", true, true,
+        Check.comes("the highest first", true, true,
                 new int[] {Asm.lui(2, 1), Asm.lw(3, 0, 4), Asm.addu(5, 3, 3)}, 1, 0, 2);
-        comes("of several the first one", true, true,
+        Check.comes("of several the first one", true, true,
                 new int[] {Asm.lui(2, 1), Asm.lui(3, 1), Asm.lui(5, 1)}, 0, 1, 2);
-        comes("what the branch needs is high", true, false,
+        Check.comes("what the branch needs is high", true, false,
                 new int[] {Asm.lui(2, 1), Asm.lui(3, 1), Asm.beq(3, 0)}, 1, 0, 2, -1);
-        comes("not before what it depends on", true, true,
+        Check.comes("not before what it depends on", true, true,
                 new int[] {Asm.sw(2, 0, 4), Asm.lui(2, 1), Asm.div(2, 3), Asm.mflo(5)},
                 0, 1, 2, 3);
     }
 
     private static void waits() {
-        comes("one that waits lets a lower one come", true, true,
+        Check.comes("one that waits lets a lower one come", true, true,
                 new int[] {Asm.lw(3, 0, 4), Asm.addu(5, 3, 3), Asm.addu(6, 5, 5), Asm.lui(2, 1)},
                 0, 3, 1, 2);
-        comes("a cycle without one", true, true,
+        Check.comes("a cycle without one", true, true,
                 new int[] {Asm.div(2, 3), Asm.mflo(5), Asm.lui(6, 1)}, 0, 2, 1);
         // The lower one is ready in cycle 1, the higher one only in cycle 2.
-        comes("ready comes before high", true, true,
+        Check.comes("ready comes before high", true, true,
                 new int[] {Asm.lw(3, 0, 4), Asm.mult(3, 3), Asm.mflo(5), Asm.sb(6, 9, 4)},
                 0, 3, 1, 2);
     }
 
     private static void keepsTheBlocksOrder() {
-        comes("not ordered", false, false,
+        Check.comes("not ordered", false, false,
                 new int[] {Asm.lui(2, 1), Asm.lw(3, 0, 4), Asm.addu(5, 3, 3)}, 0, 1, 2);
-        comes("not ordered, a branch", false, false,
+        Check.comes("not ordered, a branch", false, false,
                 new int[] {Asm.lui(2, 1), Asm.lw(3, 0, 4), Asm.j()}, 0, 1, 2, -1);
     }
 
     private static void fillsTheSlot() {
-        comes("by the last one", false, true,
+        Check.comes("by the last one", false, true,
                 new int[] {Asm.lui(2, 1), Asm.lw(3, 0, 4), Asm.j()}, 0, 2, 1);
-        comes("by the last one that none needs", false, true,
+        Check.comes("by the last one that none needs", false, true,
                 new int[] {Asm.lui(2, 1), Asm.lui(6, 1), Asm.lw(3, 0, 4), Asm.beq(3, 0)},
                 0, 2, 3, 1);
-        comes("by the last one of the order", true, true,
+        Check.comes("by the last one of the order", true, true,
                 new int[] {Asm.lui(2, 1), Asm.lw(3, 0, 4), Asm.j()}, 1, 2, 0);
-        comes("by a NOP of the block", false, true, new int[] {Asm.NOP, Asm.j()}, 1, 0);
-        comes("not by a barrier, nor by what stands before it", false, true,
+        Check.comes("by a NOP of the block", false, true, new int[] {Asm.NOP, Asm.j()}, 1, 0);
+        Check.comes("not by a barrier, nor by what stands before it", false, true,
                 new int[] {Asm.lui(2, 1), Asm.sync(), Asm.j()}, 0, 1, 2, -1);
-        comes("JAL takes what leaves 31 alone", false, true,
+        Check.comes("JAL takes what leaves 31 alone", false, true,
                 new int[] {Asm.lui(2, 1), Asm.addu(3, 31, 0), Asm.jal()}, 1, 2, 0);
-        comes("JR's too", true, true, new int[] {Asm.sw(2, 0, 4), Asm.jr(31)}, 1, 0);
-        comes("BC1T's too", true, true, new int[] {Asm.lui(2, 1), Asm.bc1t(false)}, 1, 0);
-        SlotFiller x = of(Asm.NOP, Asm.j());
+        Check.comes("JR's too", true, true, new int[] {Asm.sw(2, 0, 4), Asm.jr(31)}, 1, 0);
+        Check.comes("BC1T's too", true, true, new int[] {Asm.lui(2, 1), Asm.bc1t(false)}, 1, 0);
+        SlotFiller x = Blocks.of(Asm.NOP, Asm.j());
         x.schedule(true, true);
         Check.same("filled", 1, x.count(3));
         Check.same("no NOP of itself", 0, x.count(2));
     }
 
     private static void leavesTheSlot() {
-        comes("a branch alone", true, true, new int[] {Asm.j()}, 0, -1);
-        comes("filling is not wanted", true, false, new int[] {Asm.NOP, Asm.j()}, 0, 1, -1);
-        comes("likely", true, true, new int[] {Asm.NOP, Asm.beql(1, 2)}, 0, 1, -1);
+        Check.comes("a branch alone", true, true, new int[] {Asm.j()}, 0, -1);
+        Check.comes("filling is not wanted", true, false, new int[] {Asm.NOP, Asm.j()}, 0, 1, -1);
+        Check.comes("likely", true, true, new int[] {Asm.NOP, Asm.beql(1, 2)}, 0, 1, -1);
         int[] likely = {Asm.immediate(0x14, 1, 2, 4), Asm.immediate(0x15, 1, 2, 4),
                 Asm.immediate(0x16, 1, 0, 4), Asm.immediate(0x17, 1, 0, 4),
                 Asm.immediate(1, 1, 2, 4), Asm.immediate(1, 1, 3, 4), Asm.bc1t(true),
                 Asm.bc1t(true) & ~(1 << 16)};
         for (int branch : likely) {
-            comes("likely " + Integer.toHexString(branch), false, true,
+            Check.comes("likely " + Integer.toHexString(branch), false, true,
                     new int[] {Asm.NOP, branch}, 0, 1, -1);
         }
-        comes("the branch needs it", true, true,
+        Check.comes("the branch needs it", true, true,
                 new int[] {Asm.lw(2, 0, 4), Asm.beq(2, 0)}, 0, 1, -1);
-        comes("only barriers", true, true, new int[] {Asm.sync(), Asm.j()}, 0, 1, -1);
-        comes("no branch, no slot", true, true, new int[] {Asm.NOP, Asm.lui(2, 1)}, 0, 1);
+        Check.comes("only barriers", true, true, new int[] {Asm.sync(), Asm.j()}, 0, 1, -1);
+        Check.comes("no branch, no slot", true, true, new int[] {Asm.NOP, Asm.lui(2, 1)}, 0, 1);
     }
 
     private static void sameBlockAgain() {
-        SlotFiller x = of(Asm.lui(2, 1), Asm.lw(3, 0, 4), Asm.addu(5, 3, 3), Asm.j());
+        SlotFiller x = Blocks.of(Asm.lui(2, 1), Asm.lw(3, 0, 4), Asm.addu(5, 3, 3), Asm.j());
         x.schedule(true, true);
         Check.cameFrom("ordered, filled", x, 1, 0, 3, 2);
         x.schedule(false, true);
@@ -126,7 +110,7 @@ final class ScheduleTest {
     }
 
     private static void refusesOthers() {
-        SlotFiller x = of(Asm.lui(2, 1), Asm.j());
+        SlotFiller x = Blocks.of(Asm.lui(2, 1), Asm.j());
         x.schedule(true, false);
         int[] outside = {-1, 3, 40, 41, Integer.MIN_VALUE, Integer.MAX_VALUE};
         for (int k : outside) {
