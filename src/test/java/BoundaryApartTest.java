@@ -14,20 +14,33 @@ final class BoundaryApartTest {
     }
 
     public static void main(String[] args) {
-        storeAndLoad();
-        noByteInCommon();
-        byteAfterByte();
-        bytesOfTheWord();
-        bytesOfTwoWords();
-        withoutGoingRoundAtTheEnds();
-        withoutGoingRoundByRegisterZero();
-        theSameS();
-        writtenBetween();
-        writtenByTheFirstOne();
-        notWrittenBetween();
-        registerZeroIsNeverWritten();
-        onlyBetweenBoth();
-        latenciesHaveNoPart();
+        Check.sentence("1, if one is a STORE and the other one a STORE or LOAD",
+                BoundaryApartTest::storeAndLoad);
+        Check.sentence("unless they are APART: ... no byte in common",
+                BoundaryApartTest::noByteInCommon);
+        Check.sentence("unless they are APART: ... no byte in common",
+                BoundaryApartTest::byteAfterByte);
+        Check.sentence("of LWL to SWR those of the word in which the address lies",
+                BoundaryApartTest::bytesOfTheWord);
+        Check.sentence("from the offset, its two lowest bits taken off, on",
+                BoundaryApartTest::bytesOfTwoWords);
+        Check.sentence("the numbers s and offset taken as they are, without going round",
+                BoundaryApartTest::withoutGoingRoundAtTheEnds);
+        Check.sentence("the numbers s and offset taken as they are, without going round",
+                BoundaryApartTest::withoutGoingRoundByRegisterZero);
+        Check.sentence("both have the same s", BoundaryApartTest::theSameS);
+        Check.sentence("which neither i nor any instruction between both writes",
+                BoundaryApartTest::writtenBetween);
+        Check.sentence("which neither i nor any instruction between both writes",
+                BoundaryApartTest::writtenByTheFirstOne);
+        Check.sentence("which neither i nor any instruction between both writes",
+                BoundaryApartTest::notWrittenBetween);
+        Check.sentence("register 0 is neither read nor written",
+                BoundaryApartTest::registerZeroIsNeverWritten);
+        Check.sentence("which neither i nor any instruction between both writes",
+                BoundaryApartTest::onlyBetweenBoth);
+        Check.sentence("1, if one is a STORE and the other one a STORE or LOAD",
+                BoundaryApartTest::latenciesHaveNoPart);
         Check.end();
     }
 
@@ -41,7 +54,6 @@ final class BoundaryApartTest {
     }
 
     private static void storeAndLoad() {
-        Check.sentence("1, if one is a STORE and the other one a STORE or LOAD");
         int[] loads = {0x20, 0x21, 0x22, 0x23, 0x24, 0x25, 0x26, 0x31, 0x35};
         int[] stores = {0x28, 0x29, 0x2a, 0x2b, 0x2e, 0x39, 0x3d};
         for (int store : stores) {
@@ -67,7 +79,6 @@ final class BoundaryApartTest {
     }
 
     private static void noByteInCommon() {
-        Check.sentence("unless they are APART: ... no byte in common");
         for (int[] one : SIZES) {
             for (int offset : new int[] {-9, -1, 0, 1, 6}) {
                 for (int probe = offset - 2; probe <= offset + one[1] + 1; probe++) {
@@ -83,7 +94,6 @@ final class BoundaryApartTest {
     }
 
     private static void byteAfterByte() {
-        Check.sentence("unless they are APART: ... no byte in common");
         for (int[] one : SIZES) {
             for (int store : new int[] {0x28, 0x29, 0x2b, 0x39, 0x3d}) {
                 Check.same("the store just behind", NONE,
@@ -95,7 +105,6 @@ final class BoundaryApartTest {
     }
 
     private static void bytesOfTheWord() {
-        Check.sentence("of LWL to SWR those of the word in which the address lies");
         for (int operation : OF_A_WORD) {
             for (int offset = -8; offset <= 7; offset++) {
                 int first = offset < -4 ? -8 : offset < 0 ? -4 : offset < 4 ? 0 : 4;
@@ -110,7 +119,6 @@ final class BoundaryApartTest {
     }
 
     private static void bytesOfTwoWords() {
-        Check.sentence("from the offset, its two lowest bits taken off, on");
         for (int operation : OF_A_WORD) {
             Check.same("the ends of one word", 1,
                     Blocks.lastOnFirst(at(operation, 4), Asm.swr(3, 7, BASE)));
@@ -124,7 +132,6 @@ final class BoundaryApartTest {
     }
 
     private static void withoutGoingRoundAtTheEnds() {
-        Check.sentence("the numbers s and offset taken as they are, without going round");
         for (int[] one : SIZES) {
             Check.same("at the highest, and the lowest byte", NONE,
                     Blocks.lastOnFirst(at(one[0], HIGHEST), Asm.sb(3, LOWEST, BASE)));
@@ -154,7 +161,6 @@ final class BoundaryApartTest {
     }
 
     private static void withoutGoingRoundByRegisterZero() {
-        Check.sentence("the numbers s and offset taken as they are, without going round");
         Check.same("the words round address 0", NONE,
                 Blocks.lastOnFirst(Asm.sw(2, -4, 0), Asm.sw(3, 0, 0)));
         Check.same("a word over address 0", 1,
@@ -166,7 +172,6 @@ final class BoundaryApartTest {
     }
 
     private static void theSameS() {
-        Check.sentence("both have the same s");
         for (int s = 0; s < 32; s++) {
             Check.same("the same " + s, NONE,
                     Blocks.lastOnFirst(Asm.sw(2, 0, s), Asm.sw(3, 64, s)));
@@ -178,7 +183,6 @@ final class BoundaryApartTest {
     }
 
     private static void writtenBetween() {
-        Check.sentence("which neither i nor any instruction between both writes");
         int[] writers = {Asm.addiu(BASE, BASE, 8), Asm.lui(BASE, 1), Asm.addu(BASE, 8, 9),
             Asm.special(0x00, 0, 8, BASE), Asm.special2(0x20, 8, 0, BASE),
             Asm.special(0x0a, 8, 9, BASE), Asm.special(0x01, 8, 0, BASE), Asm.mfc1(BASE, 8),
@@ -196,7 +200,6 @@ final class BoundaryApartTest {
     }
 
     private static void writtenByTheFirstOne() {
-        Check.sentence("which neither i nor any instruction between both writes");
         SlotFiller x = Blocks.of(Asm.lw(BASE, 0, BASE), Asm.sw(3, 8, BASE));
         for (int cycles : new int[] {1, 2, 40}) {
             x.latency(1, cycles);
@@ -205,7 +208,6 @@ final class BoundaryApartTest {
     }
 
     private static void notWrittenBetween() {
-        Check.sentence("which neither i nor any instruction between both writes");
         int[] others = {Asm.NOP, Asm.addu(8, BASE, BASE), Asm.sw(BASE, 64, BASE),
             Asm.lwc1(BASE, 64, BASE), Asm.ldc1(BASE, 64, BASE), Asm.mtc1(BASE, BASE),
             Asm.fraction(0, Asm.S, BASE, BASE, BASE), Asm.addiu(5, BASE, 8), Asm.mult(BASE, BASE),
@@ -217,7 +219,6 @@ final class BoundaryApartTest {
     }
 
     private static void registerZeroIsNeverWritten() {
-        Check.sentence("register 0 is neither read nor written");
         Check.same("LUI into 0 between", NONE,
                 Blocks.lastOnFirst(Asm.sw(2, 0, 0), Asm.lui(0, 1), Asm.sw(3, 8, 0)));
         Check.same("the first one loads into 0", NONE,
@@ -227,7 +228,6 @@ final class BoundaryApartTest {
     }
 
     private static void onlyBetweenBoth() {
-        Check.sentence("which neither i nor any instruction between both writes");
         SlotFiller x = Blocks.of(Asm.addiu(BASE, BASE, 8), Asm.sw(2, 0, BASE), Asm.sw(3, 8, BASE),
                 Asm.addiu(BASE, BASE, 8), Asm.sw(2, 0, BASE), Asm.sw(3, 8, BASE));
         Check.same("written before both and behind both", NONE, x.depends(2, 1));
@@ -239,7 +239,6 @@ final class BoundaryApartTest {
     }
 
     private static void latenciesHaveNoPart() {
-        Check.sentence("1, if one is a STORE and the other one a STORE or LOAD");
         SlotFiller x = Blocks.of(Asm.lw(2, 0, 5), Asm.sw(3, 0, 6), Asm.lw(7, 0, 5));
         x.latency(1, 40);
         x.latency(2, 40);

@@ -17,27 +17,37 @@ final class BoundaryBlockTest {
     }
 
     public static void main(String[] args) {
-        newObject();
-        fortyAtMost();
-        branchAsTheFortieth();
-        branchAsTheFortyFirst();
-        branchOnlyAsTheLastOne();
-        branchAsTheFirstOne();
-        barriersEndNoBlock();
-        firstBehindScheduleBeginsANewOne();
-        firstBehindScheduleOfNone();
-        firstBehindSchedulesInARow();
-        firstBehindAFullOne();
-        whatCameOutStays();
-        refusedBehindSchedule();
-        noSuchComesFirst();
-        changesNothing();
-        changesNothingWhenFull();
+        Check.sentence("No block, nothing came out", BoundaryBlockTest::newObject);
+        Check.sentence("A BLOCK has at most 40 instructions; IllegalStateException: there are 40",
+                BoundaryBlockTest::fortyAtMost);
+        Check.sentence("A BLOCK has at most 40 instructions; a BRANCH can only be its last one",
+                BoundaryBlockTest::branchAsTheFortieth);
+        Check.sentence("IllegalStateException: there are 40",
+                BoundaryBlockTest::branchAsTheFortyFirst);
+        Check.sentence("IllegalStateException: ... or the last one is a BRANCH",
+                BoundaryBlockTest::branchOnlyAsTheLastOne);
+        Check.sentence("a BRANCH can only be its last one", BoundaryBlockTest::branchAsTheFirstOne);
+        Check.sentence("a BRANCH can only be its last one", BoundaryBlockTest::barriersEndNoBlock);
+        Check.sentence("the first one behind schedule() begins a new one",
+                BoundaryBlockTest::firstBehindScheduleBeginsANewOne);
+        Check.sentence("the first one behind schedule() begins a new one",
+                BoundaryBlockTest::firstBehindScheduleOfNone);
+        Check.sentence("the first one behind schedule() begins a new one",
+                BoundaryBlockTest::firstBehindSchedulesInARow);
+        Check.sentence("the first one behind schedule() begins a new one",
+                BoundaryBlockTest::firstBehindAFullOne);
+        Check.sentence("what came out stays", BoundaryBlockTest::whatCameOutStays);
+        Check.sentence("a call that throws changes nothing",
+                BoundaryBlockTest::refusedBehindSchedule);
+        Check.sentence("Of several exceptions the first one told is thrown",
+                BoundaryBlockTest::noSuchComesFirst);
+        Check.sentence("a call that throws changes nothing", BoundaryBlockTest::changesNothing);
+        Check.sentence("a call that throws changes nothing",
+                BoundaryBlockTest::changesNothingWhenFull);
         Check.end();
     }
 
     private static void newObject() {
-        Check.sentence("No block, nothing came out");
         SlotFiller x = new SlotFiller();
         for (int what = 0; what <= 3; what++) {
             Check.same("count(" + what + ")", 0, x.count(what));
@@ -52,7 +62,6 @@ final class BoundaryBlockTest {
     }
 
     private static void fortyAtMost() {
-        Check.sentence("A BLOCK has at most 40 instructions; IllegalStateException: there are 40");
         SlotFiller x = Blocks.ofMany(39, Asm.NOP);
         Check.same("the fortieth", 1, x.add(Asm.lw(5, 0, 6)));
         Check.same("forty", 40, x.count(0));
@@ -65,7 +74,6 @@ final class BoundaryBlockTest {
     }
 
     private static void branchAsTheFortieth() {
-        Check.sentence("A BLOCK has at most 40 instructions; a BRANCH can only be its last one");
         SlotFiller x = Blocks.ofMany(39, Asm.NOP);
         Check.same("as the fortieth", 7, x.add(Asm.j()));
         Check.refused("behind it", IllegalStateException.class, () -> x.add(Asm.NOP));
@@ -74,7 +82,6 @@ final class BoundaryBlockTest {
     }
 
     private static void branchAsTheFortyFirst() {
-        Check.sentence("IllegalStateException: there are 40");
         SlotFiller x = Blocks.ofMany(40, Asm.NOP);
         for (int branch : BRANCHES) {
             Check.refused("as the forty-first", IllegalStateException.class, () -> x.add(branch));
@@ -84,7 +91,6 @@ final class BoundaryBlockTest {
     }
 
     private static void branchOnlyAsTheLastOne() {
-        Check.sentence("IllegalStateException: ... or the last one is a BRANCH");
         for (int branch : BRANCHES) {
             SlotFiller x = Blocks.of(Asm.addu(5, 6, 7), branch);
             String name = "behind " + Integer.toHexString(branch);
@@ -98,7 +104,6 @@ final class BoundaryBlockTest {
     }
 
     private static void branchAsTheFirstOne() {
-        Check.sentence("a BRANCH can only be its last one");
         for (int branch : BRANCHES) {
             SlotFiller x = Blocks.of(branch);
             Check.refused("behind it", IllegalStateException.class, () -> x.add(Asm.NOP));
@@ -108,7 +113,6 @@ final class BoundaryBlockTest {
     }
 
     private static void barriersEndNoBlock() {
-        Check.sentence("a BRANCH can only be its last one");
         for (int barrier : BARRIERS) {
             SlotFiller x = Blocks.of(Asm.NOP);
             Check.same("a barrier", 8, x.add(barrier));
@@ -119,7 +123,6 @@ final class BoundaryBlockTest {
     }
 
     private static void firstBehindScheduleBeginsANewOne() {
-        Check.sentence("the first one behind schedule() begins a new one");
         for (int branch : BRANCHES) {
             SlotFiller x = Blocks.of(Asm.lw(5, 0, 6), Asm.NOP, branch);
             x.schedule(true, true);
@@ -137,7 +140,6 @@ final class BoundaryBlockTest {
     }
 
     private static void firstBehindScheduleOfNone() {
-        Check.sentence("the first one behind schedule() begins a new one");
         SlotFiller x = new SlotFiller();
         x.schedule(true, true);
         Check.adds(x, Asm.lw(5, 0, 6), Asm.addu(7, 5, 5));
@@ -146,7 +148,6 @@ final class BoundaryBlockTest {
     }
 
     private static void firstBehindSchedulesInARow() {
-        Check.sentence("the first one behind schedule() begins a new one");
         SlotFiller x = Blocks.of(Asm.lw(5, 0, 6), Asm.addu(7, 5, 5), Asm.j());
         x.schedule(true, true);
         x.schedule(false, false);
@@ -157,7 +158,6 @@ final class BoundaryBlockTest {
     }
 
     private static void firstBehindAFullOne() {
-        Check.sentence("the first one behind schedule() begins a new one");
         SlotFiller x = Blocks.ofMany(40, Asm.lw(5, 0, 5));
         x.schedule(true, true);
         for (int i = 0; i < 40; i++) {
@@ -171,7 +171,6 @@ final class BoundaryBlockTest {
     }
 
     private static void whatCameOutStays() {
-        Check.sentence("what came out stays");
         SlotFiller x = Blocks.of(Asm.lui(5, 1), Asm.lw(6, 0, 7), Asm.addu(8, 6, 6), Asm.j());
         x.schedule(true, false);
         Check.adds(x, Asm.div(5, 6), Asm.mflo(7));
@@ -188,7 +187,6 @@ final class BoundaryBlockTest {
     }
 
     private static void refusedBehindSchedule() {
-        Check.sentence("a call that throws changes nothing");
         SlotFiller x = Blocks.of(Asm.lw(5, 0, 6), Asm.addu(7, 5, 5), Asm.j());
         x.schedule(true, true);
         Check.refusedUnchanged("add(-1)", IllegalArgumentException.class, x, () -> x.add(-1));
@@ -201,7 +199,6 @@ final class BoundaryBlockTest {
     }
 
     private static void noSuchComesFirst() {
-        Check.sentence("Of several exceptions the first one told is thrown");
         SlotFiller full = Blocks.ofMany(40, Asm.NOP);
         SlotFiller ended = Blocks.of(Asm.j());
         for (int word : new int[] {-1, Integer.MAX_VALUE, ODD_DOUBLE, 0x05, 0x35}) {
@@ -215,7 +212,6 @@ final class BoundaryBlockTest {
     }
 
     private static void changesNothing() {
-        Check.sentence("a call that throws changes nothing");
         SlotFiller x = Blocks.of(Asm.lw(5, 0, 6), Asm.addu(7, 5, 5), Asm.j());
         x.schedule(true, true);
         Check.adds(x, Asm.div(5, 6), Asm.mflo(7));
@@ -235,7 +231,6 @@ final class BoundaryBlockTest {
     }
 
     private static void changesNothingWhenFull() {
-        Check.sentence("a call that throws changes nothing");
         SlotFiller x = Blocks.ofMany(40, Asm.lw(5, 0, 5));
         Check.refusedUnchanged("the forty-first", IllegalStateException.class, x,
                 () -> x.add(Asm.j()));

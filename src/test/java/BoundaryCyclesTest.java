@@ -8,18 +8,22 @@ final class BoundaryCyclesTest {
     }
 
     public static void main(String[] args) {
-        zeroOfNone();
-        oneOfOne();
-        oneCycleBehindAtLeast();
-        soManyBehindThose();
-        behindOnesFurtherBefore();
-        asInTheBlock();
-        theSlotsOne();
-        aNopOnNone();
-        lastOnesCycle();
-        theLongest();
-        byTheLatenciesOfThen();
-        staysWithoutSchedule();
+        Check.sentence("0 of none", BoundaryCyclesTest::zeroOfNone);
+        Check.sentence("the first one in cycle 0 ... 1 more than the last one's cycle",
+                BoundaryCyclesTest::oneOfOne);
+        Check.sentence("one cycle behind the one before it at least",
+                BoundaryCyclesTest::oneCycleBehindAtLeast);
+        Check.sentence("each so many behind those ... on which it depends as it does",
+                BoundaryCyclesTest::soManyBehindThose);
+        Check.sentence("each so many behind those that come before it",
+                BoundaryCyclesTest::behindOnesFurtherBefore);
+        Check.sentence("as in the block", BoundaryCyclesTest::asInTheBlock);
+        Check.sentence("the slot's does not depend on the branch", BoundaryCyclesTest::theSlotsOne);
+        Check.sentence("a NOP on none", BoundaryCyclesTest::aNopOnNone);
+        Check.sentence("1 more than the last one's cycle", BoundaryCyclesTest::lastOnesCycle);
+        Check.sentence("1 more than the last one's cycle", BoundaryCyclesTest::theLongest);
+        Check.sentence("by the latencies of then", BoundaryCyclesTest::byTheLatenciesOfThen);
+        Check.sentence("The cycles of what came out", BoundaryCyclesTest::staysWithoutSchedule);
         Check.end();
     }
 
@@ -30,7 +34,6 @@ final class BoundaryCyclesTest {
     }
 
     private static void zeroOfNone() {
-        Check.sentence("0 of none");
         SlotFiller x = new SlotFiller();
         Check.same("new", 0, x.cycles());
         x.schedule(true, true);
@@ -42,7 +45,6 @@ final class BoundaryCyclesTest {
     }
 
     private static void oneOfOne() {
-        Check.sentence("the first one in cycle 0 ... 1 more than the last one's cycle");
         for (int word : ONE_OF_EACH) {
             SlotFiller x = Blocks.of(word);
             for (int of = 0; of <= 6; of++) {
@@ -54,7 +56,6 @@ final class BoundaryCyclesTest {
     }
 
     private static void oneCycleBehindAtLeast() {
-        Check.sentence("one cycle behind the one before it at least");
         for (int many : new int[] {1, 2, 39, 40}) {
             SlotFiller x = Blocks.ofMany(many, Asm.NOP);
             x.latency(0, 40);
@@ -65,7 +66,6 @@ final class BoundaryCyclesTest {
     }
 
     private static void soManyBehindThose() {
-        Check.sentence("each so many behind those ... on which it depends as it does");
         SlotFiller x = Blocks.of(Asm.lw(5, 0, 6), Asm.addu(7, 5, 5));
         for (int cycles : new int[] {1, 2, 3, 40}) {
             x.latency(1, cycles);
@@ -78,7 +78,6 @@ final class BoundaryCyclesTest {
     }
 
     private static void behindOnesFurtherBefore() {
-        Check.sentence("each so many behind those that come before it");
         Check.same("two of four are gone", 5, takes(false, false,
                 Asm.mult(5, 6), Asm.lui(7, 1), Asm.lui(8, 1), Asm.mflo(9)));
         Check.same("all four are gone", 6, takes(false, false, Asm.mult(5, 6), Asm.lui(7, 1),
@@ -90,7 +89,6 @@ final class BoundaryCyclesTest {
     }
 
     private static void asInTheBlock() {
-        Check.sentence("as in the block");
         // LUI 5 of what ADDU reads comes behind it in the block, and so it does in the slot.
         Check.same("the slot's writes what another one reads", 5, takes(true, true,
                 Asm.lw(6, 0, 20), Asm.addu(7, 6, 5), Asm.lui(5, 1), Asm.beq(7, 0)));
@@ -101,7 +99,6 @@ final class BoundaryCyclesTest {
     }
 
     private static void theSlotsOne() {
-        Check.sentence("the slot's does not depend on the branch");
         Check.same("one behind the branch", 2, takes(true, true, Asm.lui(5, 1), Asm.j()));
         Check.same("behind one that waits", 4, takes(true, true,
                 Asm.lw(5, 0, 6), Asm.lui(7, 1), Asm.beq(5, 0)));
@@ -111,7 +108,6 @@ final class BoundaryCyclesTest {
     }
 
     private static void aNopOnNone() {
-        Check.sentence("a NOP on none");
         Check.same("behind a DIV and a branch", 3, takes(true, false, Asm.div(5, 6), Asm.j()));
         Check.same("behind a branch that waits", 4,
                 takes(true, true, Asm.lw(5, 0, 6), Asm.beq(5, 0)));
@@ -120,13 +116,11 @@ final class BoundaryCyclesTest {
     }
 
     private static void lastOnesCycle() {
-        Check.sentence("1 more than the last one's cycle");
         Check.same("a DIV last", 2, takes(false, false, Asm.lui(5, 1), Asm.div(6, 7)));
         Check.same("a DIV in the slot", 2, takes(true, true, Asm.div(6, 7), Asm.j()));
     }
 
     private static void theLongest() {
-        Check.sentence("1 more than the last one's cycle");
         SlotFiller x = Blocks.ofMany(39, Asm.lw(5, 0, 5));
         x.add(Asm.beq(5, 0));
         x.latency(1, 40);
@@ -135,7 +129,6 @@ final class BoundaryCyclesTest {
     }
 
     private static void byTheLatenciesOfThen() {
-        Check.sentence("by the latencies of then");
         SlotFiller x = Blocks.of(Asm.lw(5, 0, 6), Asm.addu(7, 5, 5));
         x.latency(1, 7);
         x.schedule(true, true);
@@ -151,7 +144,6 @@ final class BoundaryCyclesTest {
     }
 
     private static void staysWithoutSchedule() {
-        Check.sentence("The cycles of what came out");
         SlotFiller x = Blocks.of(Asm.lw(5, 0, 6), Asm.addu(7, 5, 5));
         x.schedule(true, true);
         Check.adds(x, Asm.div(5, 6), Asm.mflo(7));

@@ -13,28 +13,35 @@ final class BoundaryDependsTest {
     }
 
     public static void main(String[] args) {
-        onAnEarlierOneAlone();
-        readsWhatIsWritten();
-        writesWhatIsRead();
-        writesWhatIsWritten();
-        oneAtLeast();
-        theGreatest();
-        oneOfBothABarrier();
-        conditionsAreOneThing();
-        productsAreOneThing();
-        noneWhenNoneHolds();
-        overOthersBetween();
-        byTheLatenciesOfNow();
-        noSuchJ();
-        noSuchI();
-        neither();
-        noneInABlockOfNone();
-        behindScheduleAndAdd();
+        Check.sentence("An instruction j DEPENDS on an earlier one i",
+                BoundaryDependsTest::onAnEarlierOneAlone);
+        Check.sentence("i's latency, if j reads what i writes",
+                BoundaryDependsTest::readsWhatIsWritten);
+        Check.sentence("1, if j writes what i reads", BoundaryDependsTest::writesWhatIsRead);
+        Check.sentence("if j writes what i writes, i's latency less j's and 1 more",
+                BoundaryDependsTest::writesWhatIsWritten);
+        Check.sentence("if j writes what i writes ... but 1 at least",
+                BoundaryDependsTest::oneAtLeast);
+        Check.sentence("the greatest of these that hold", BoundaryDependsTest::theGreatest);
+        Check.sentence("1, if one of both is a BARRIER", BoundaryDependsTest::oneOfBothABarrier);
+        Check.sentence("CONDITIONS are one thing", BoundaryDependsTest::conditionsAreOneThing);
+        Check.sentence("PRODUCTS too", BoundaryDependsTest::productsAreOneThing);
+        Check.sentence("NONE when it does not", BoundaryDependsTest::noneWhenNoneHolds);
+        Check.sentence("if j reads what i writes", BoundaryDependsTest::overOthersBetween);
+        Check.sentence("by the latencies of now", BoundaryDependsTest::byTheLatenciesOfNow);
+        Check.sentence("IndexOutOfBoundsException: there is no such (j)",
+                BoundaryDependsTest::noSuchJ);
+        Check.sentence("IndexOutOfBoundsException: there is no such (i)",
+                BoundaryDependsTest::noSuchI);
+        Check.sentence("IndexOutOfBoundsException: there is no such (neither)",
+                BoundaryDependsTest::neither);
+        Check.sentence("IndexOutOfBoundsException: there is no such (no block)",
+                BoundaryDependsTest::noneInABlockOfNone);
+        Check.sentence("instruction j of the block", BoundaryDependsTest::behindScheduleAndAdd);
         Check.end();
     }
 
     private static void onAnEarlierOneAlone() {
-        Check.sentence("An instruction j DEPENDS on an earlier one i");
         int[][] blocks = {{Asm.addu(5, 5, 5), Asm.addu(5, 5, 5), Asm.addu(5, 5, 5)},
             {Asm.sync(), Asm.sync(), Asm.sync()},
             {Asm.sw(5, 0, 6), Asm.sw(5, 0, 6), Asm.sw(5, 0, 6)},
@@ -52,7 +59,6 @@ final class BoundaryDependsTest {
     }
 
     private static void readsWhatIsWritten() {
-        Check.sentence("i's latency, if j reads what i writes");
         SlotFiller x = Blocks.of(Asm.lw(5, 0, 6), Asm.addu(7, 5, 8));
         for (int cycles : new int[] {1, 2, 39, 40}) {
             x.latency(LOAD, cycles);
@@ -64,7 +70,6 @@ final class BoundaryDependsTest {
     }
 
     private static void writesWhatIsRead() {
-        Check.sentence("1, if j writes what i reads");
         SlotFiller x = Blocks.of(Asm.lw(5, 0, 6), Asm.addu(6, 7, 8));
         for (int cycles : new int[] {1, 40}) {
             x.latency(LOAD, cycles);
@@ -74,7 +79,6 @@ final class BoundaryDependsTest {
     }
 
     private static void writesWhatIsWritten() {
-        Check.sentence("if j writes what i writes, i's latency less j's and 1 more");
         SlotFiller x = Blocks.of(Asm.lw(5, 0, 6), Asm.addu(5, 7, 8));
         int[][] due = {{2, 1, 2}, {40, 1, 40}, {40, 39, 2}, {40, 20, 21}, {20, 4, 17}};
         for (int[] row : due) {
@@ -85,7 +89,6 @@ final class BoundaryDependsTest {
     }
 
     private static void oneAtLeast() {
-        Check.sentence("if j writes what i writes ... but 1 at least");
         SlotFiller x = Blocks.of(Asm.lw(5, 0, 6), Asm.addu(5, 7, 8));
         int[][] equalOrLess = {{1, 1}, {40, 40}, {1, 2}, {39, 40}, {1, 3}, {1, 40}};
         for (int[] row : equalOrLess) {
@@ -96,7 +99,6 @@ final class BoundaryDependsTest {
     }
 
     private static void theGreatest() {
-        Check.sentence("the greatest of these that hold");
         Check.same("read 2, memory 1", 2, Blocks.lastOnFirst(Asm.lw(5, 0, 6), Asm.sw(5, 0, 6)));
         Check.same("written 17, read by i 1", 17,
                 Blocks.lastOnFirst(Asm.div(5, 6), Asm.mul(5, 7, 8)));
@@ -118,7 +120,6 @@ final class BoundaryDependsTest {
     }
 
     private static void oneOfBothABarrier() {
-        Check.sentence("1, if one of both is a BARRIER");
         for (int barrier : new int[] {Asm.sync(), Asm.syscall(), Asm.special(0x34, 0, 0, 0)}) {
             for (int other : APART) {
                 barrier("then a barrier", other, barrier);
@@ -142,7 +143,6 @@ final class BoundaryDependsTest {
     }
 
     private static void conditionsAreOneThing() {
-        Check.sentence("CONDITIONS are one thing");
         for (int one = 0; one < 8; one++) {
             int compare = Asm.fraction(0x32, Asm.S, one << 2, 1, 2);
             for (int other = 0; other < 8; other++) {
@@ -159,7 +159,6 @@ final class BoundaryDependsTest {
     }
 
     private static void productsAreOneThing() {
-        Check.sentence("PRODUCTS too");
         int mthi = Asm.special(0x11, 5, 0, 0);
         int mfhi = Asm.special(0x10, 0, 0, 6);
         Check.same("MTHI, MFLO", 1, Blocks.lastOnFirst(mthi, Asm.mflo(6)));
@@ -171,10 +170,12 @@ final class BoundaryDependsTest {
         SlotFiller x = Blocks.of(mthi, Asm.mflo(6));
         x.latency(PLAIN, 40);
         Check.same("MTHI's latency", 40, x.depends(1, 0));
+        SlotFiller y = Blocks.of(Asm.mult(7, 8), mthi);
+        y.latency(PLAIN, 40);
+        Check.same("MTHI keeps a half, so that it reads", 4, y.depends(1, 0));
     }
 
     private static void noneWhenNoneHolds() {
-        Check.sentence("NONE when it does not");
         SlotFiller x = Blocks.of(APART);
         for (int of = 0; of <= 6; of++) {
             x.latency(of, 40);
@@ -191,7 +192,6 @@ final class BoundaryDependsTest {
     }
 
     private static void overOthersBetween() {
-        Check.sentence("if j reads what i writes");
         SlotFiller x = new SlotFiller();
         x.add(Asm.lw(5, 0, 6));
         for (int k = 0; k < 38; k++) {
@@ -204,7 +204,6 @@ final class BoundaryDependsTest {
     }
 
     private static void byTheLatenciesOfNow() {
-        Check.sentence("by the latencies of now");
         SlotFiller x = Blocks.of(Asm.lw(5, 0, 6), Asm.addu(7, 5, 8));
         Check.same("at first", 2, x.depends(1, 0));
         x.latency(LOAD, 5);
@@ -215,7 +214,6 @@ final class BoundaryDependsTest {
     }
 
     private static void noSuchJ() {
-        Check.sentence("IndexOutOfBoundsException: there is no such (j)");
         SlotFiller x = Blocks.of(Asm.lw(5, 0, 6), Asm.addu(7, 5, 8), Asm.NOP);
         for (int j : new int[] {-1, 3, 4, 39, 40, 41, Integer.MIN_VALUE, Integer.MAX_VALUE}) {
             for (int i = 0; i < 3; i++) {
@@ -227,7 +225,6 @@ final class BoundaryDependsTest {
     }
 
     private static void noSuchI() {
-        Check.sentence("IndexOutOfBoundsException: there is no such (i)");
         SlotFiller x = Blocks.of(Asm.lw(5, 0, 6), Asm.addu(7, 5, 8), Asm.NOP);
         for (int i : new int[] {-1, 3, 4, 39, 40, 41, Integer.MIN_VALUE, Integer.MAX_VALUE}) {
             for (int j = 0; j < 3; j++) {
@@ -239,7 +236,6 @@ final class BoundaryDependsTest {
     }
 
     private static void neither() {
-        Check.sentence("IndexOutOfBoundsException: there is no such (neither)");
         SlotFiller x = Blocks.ofMany(40, Asm.NOP);
         Check.same("the last on the first", NONE, x.depends(39, 0));
         Check.refused("depends(40, 40)", IndexOutOfBoundsException.class,
@@ -255,7 +251,6 @@ final class BoundaryDependsTest {
     }
 
     private static void noneInABlockOfNone() {
-        Check.sentence("IndexOutOfBoundsException: there is no such (no block)");
         SlotFiller x = new SlotFiller();
         Check.refused("depends(0, 0)", IndexOutOfBoundsException.class, () -> x.depends(0, 0));
         x.schedule(true, true);
@@ -266,7 +261,6 @@ final class BoundaryDependsTest {
     }
 
     private static void behindScheduleAndAdd() {
-        Check.sentence("instruction j of the block");
         SlotFiller x = Blocks.of(Asm.lui(9, 1), Asm.lw(5, 0, 6), Asm.addu(7, 5, 8), Asm.j());
         x.schedule(true, true);
         Check.same("indices are the block's, not those of what came out", 2, x.depends(2, 1));

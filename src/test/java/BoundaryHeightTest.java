@@ -9,20 +9,25 @@ final class BoundaryHeightTest {
     }
 
     public static void main(String[] args) {
-        itsLatencyIfThereIsNone();
-        lessThanItsLatency();
-        theGreatest();
-        theBranchIsOneOfThem();
-        fortyInARow();
-        byTheLatenciesOfNow();
-        noSuch();
-        noneInABlockOfNone();
-        behindScheduleAndAdd();
+        Check.sentence("its latency, if there is none",
+                BoundaryHeightTest::itsLatencyIfThereIsNone);
+        Check.sentence("the greatest, over those that depend on it; its latency, if there is none",
+                BoundaryHeightTest::lessThanItsLatency);
+        Check.sentence("the greatest ... of their height and the cycles by which they do",
+                BoundaryHeightTest::theGreatest);
+        Check.sentence("over those that depend on it", BoundaryHeightTest::theBranchIsOneOfThem);
+        Check.sentence("the greatest ... of their height and the cycles by which they do",
+                BoundaryHeightTest::fortyInARow);
+        Check.sentence("by the latencies of now", BoundaryHeightTest::byTheLatenciesOfNow);
+        Check.sentence("IndexOutOfBoundsException: there is no such", BoundaryHeightTest::noSuch);
+        Check.sentence("IndexOutOfBoundsException: there is no such (no block)",
+                BoundaryHeightTest::noneInABlockOfNone);
+        Check.sentence("The height of an instruction of the block",
+                BoundaryHeightTest::behindScheduleAndAdd);
         Check.end();
     }
 
     private static void itsLatencyIfThereIsNone() {
-        Check.sentence("its latency, if there is none");
         for (int of = 0; of <= 8; of++) {
             Check.same("alone, of class " + of, FIRST[of], Blocks.of(ONE_OF_EACH[of]).height(0));
             SlotFiller x = Blocks.of(Asm.lw(20, 0, 21), Asm.lui(22, 1), ONE_OF_EACH[of]);
@@ -34,7 +39,6 @@ final class BoundaryHeightTest {
     }
 
     private static void lessThanItsLatency() {
-        Check.sentence("the greatest, over those that depend on it; its latency, if there is none");
         Check.same("a barrier behind a DIV", 2, Blocks.of(Asm.div(5, 6), Asm.sync()).height(0));
         Check.same("a LUI of what the DIV reads", 2,
                 Blocks.of(Asm.div(5, 6), Asm.lui(5, 1)).height(0));
@@ -43,7 +47,6 @@ final class BoundaryHeightTest {
     }
 
     private static void theGreatest() {
-        Check.sentence("the greatest ... of their height and the cycles by which they do");
         SlotFiller x = Blocks.of(Asm.div(5, 6), Asm.mflo(7), Asm.lui(5, 1), Asm.mtc1(5, 1),
                 Asm.fraction(4, Asm.S, 2, 1, 0), Asm.fraction(4, Asm.S, 3, 2, 0),
                 Asm.swc1(3, 0, 20));
@@ -60,7 +63,6 @@ final class BoundaryHeightTest {
     }
 
     private static void theBranchIsOneOfThem() {
-        Check.sentence("over those that depend on it");
         Check.same("a load", 3, Blocks.of(Asm.lw(5, 0, 6), Asm.beq(5, 0)).height(0));
         Check.same("read by the load, written by JAL", 2,
                 Blocks.of(Asm.lw(5, 0, 31), Asm.jal()).height(0));
@@ -70,7 +72,6 @@ final class BoundaryHeightTest {
     }
 
     private static void fortyInARow() {
-        Check.sentence("the greatest ... of their height and the cycles by which they do");
         SlotFiller x = Blocks.ofMany(40, Asm.lw(5, 0, 5));
         x.latency(1, 40);
         for (int i = 0; i < 40; i++) {
@@ -79,7 +80,6 @@ final class BoundaryHeightTest {
     }
 
     private static void byTheLatenciesOfNow() {
-        Check.sentence("by the latencies of now");
         SlotFiller x = Blocks.of(Asm.lw(5, 0, 6), Asm.addu(7, 5, 5));
         Check.same("at first", 3, x.height(0));
         x.latency(1, 9);
@@ -93,7 +93,6 @@ final class BoundaryHeightTest {
     }
 
     private static void noSuch() {
-        Check.sentence("IndexOutOfBoundsException: there is no such");
         for (int size : new int[] {1, 2, 39, 40}) {
             SlotFiller x = Blocks.ofMany(size, Asm.NOP);
             Check.same("the first one's", 1, x.height(0));
@@ -107,7 +106,6 @@ final class BoundaryHeightTest {
     }
 
     private static void noneInABlockOfNone() {
-        Check.sentence("IndexOutOfBoundsException: there is no such (no block)");
         SlotFiller x = new SlotFiller();
         Check.refused("height(0)", IndexOutOfBoundsException.class, () -> x.height(0));
         x.schedule(false, true);
@@ -116,7 +114,6 @@ final class BoundaryHeightTest {
     }
 
     private static void behindScheduleAndAdd() {
-        Check.sentence("The height of an instruction of the block");
         SlotFiller x = Blocks.of(Asm.lui(9, 1), Asm.lw(5, 0, 6), Asm.addu(7, 5, 8), Asm.j());
         x.schedule(true, false);
         Check.same("indices are the block's, not those of what came out", 1, x.height(0));

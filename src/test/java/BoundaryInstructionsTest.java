@@ -9,22 +9,35 @@ final class BoundaryInstructionsTest {
     }
 
     public static void main(String[] args) {
-        registerZero();
-        registerZeroOfProducts();
-        registerZeroIsLinkedToByNone();
-        fractionZeroIsAsAnyOther();
-        doublesTakeTheOneBehindThem();
-        doublesAreReadWhole();
-        oddDoubles();
-        resultsFormat();
-        anyCondition();
-        formatsOfFractions();
-        trapsFromFirstToLast();
-        likelyOnes();
-        fieldsNotLookedAt();
-        singlesAlsoWhereADoubleIsMeant();
-        nop();
-        wordsAtTheEnds();
+        Check.sentence("register 0 is neither read nor written",
+                BoundaryInstructionsTest::registerZero);
+        Check.sentence("register 0 is neither read nor written",
+                BoundaryInstructionsTest::registerZeroOfProducts);
+        Check.sentence("register 0 is neither read nor written",
+                BoundaryInstructionsTest::registerZeroIsLinkedToByNone);
+        Check.sentence("register 0 is neither read nor written; fd, fs, ft fractions",
+                BoundaryInstructionsTest::fractionZeroIsAsAnyOther);
+        Check.sentence("of format D each with the one behind it, too",
+                BoundaryInstructionsTest::doublesTakeTheOneBehindThem);
+        Check.sentence("of format D each with the one behind it, too",
+                BoundaryInstructionsTest::doublesAreReadWhole);
+        Check.sentence("of format D ... an odd one there is none",
+                BoundaryInstructionsTest::oddDoubles);
+        Check.sentence("fd, which is of the result's format, W as S",
+                BoundaryInstructionsTest::resultsFormat);
+        Check.sentence("C with any condition", BoundaryInstructionsTest::anyCondition);
+        Check.sentence("FRACTION, of formats S and D ... CVT.S (of D, W), CVT.D (of S, W)",
+                BoundaryInstructionsTest::formatsOfFractions);
+        Check.sentence("traps (TGE .. TNE, TGEI .. TNEI)",
+                BoundaryInstructionsTest::trapsFromFirstToLast);
+        Check.sentence("all these with L behind (LIKELY); J; JAL ... BLTZAL BGEZAL",
+                BoundaryInstructionsTest::likelyOnes);
+        Check.sentence("Fields that an instruction does not have are not looked at",
+                BoundaryInstructionsTest::fieldsNotLookedAt);
+        Check.sentence("MFC1's, MTC1's, LWC1's and SWC1's fractions are single ones",
+                BoundaryInstructionsTest::singlesAlsoWhereADoubleIsMeant);
+        Check.sentence("SLL with all fields 0 is NOP", BoundaryInstructionsTest::nop);
+        Check.sentence("of these there are", BoundaryInstructionsTest::wordsAtTheEnds);
         Check.end();
     }
 
@@ -52,7 +65,6 @@ final class BoundaryInstructionsTest {
     }
 
     private static void registerZero() {
-        Check.sentence("register 0 is neither read nor written");
         for (int n : new int[] {0, 1, 30}) {
             for (int writer : writersOf(n)) {
                 for (int reader : readersOf(n)) {
@@ -74,7 +86,6 @@ final class BoundaryInstructionsTest {
     }
 
     private static void registerZeroOfProducts() {
-        Check.sentence("register 0 is neither read nor written");
         Check.same("MUL into 0", NONE, Blocks.lastOnFirst(Asm.mul(0, 5, 6), Asm.addu(8, 0, 0)));
         Check.same("MUL into 0 has PRODUCTS", 4, Blocks.lastOnFirst(Asm.mul(0, 5, 6), Asm.mflo(8)));
         Check.same("MFLO into 0", NONE, Blocks.lastOnFirst(Asm.mflo(0), Asm.addu(8, 0, 0)));
@@ -82,7 +93,6 @@ final class BoundaryInstructionsTest {
     }
 
     private static void registerZeroIsLinkedToByNone() {
-        Check.sentence("register 0 is neither read nor written");
         Check.same("JALR into 0", NONE, Blocks.lastOnFirst(Asm.addu(8, 0, 0), Asm.jalr(0, 5)));
         Check.same("JALR into 0 leaves 31", NONE,
                 Blocks.lastOnFirst(Asm.addu(8, 31, 0), Asm.jalr(0, 5)));
@@ -90,7 +100,6 @@ final class BoundaryInstructionsTest {
     }
 
     private static void fractionZeroIsAsAnyOther() {
-        Check.sentence("register 0 is neither read nor written; fd, fs, ft fractions");
         Check.same("LWC1, MFC1", 2, Blocks.lastOnFirst(Asm.lwc1(0, 0, 5), Asm.mfc1(8, 0)));
         Check.same("MTC1, MFC1", 1, Blocks.lastOnFirst(Asm.mtc1(0, 0), Asm.mfc1(8, 0)));
         Check.same("MFC1, MTC1", 1, Blocks.lastOnFirst(Asm.mfc1(0, 0), Asm.mtc1(8, 0)));
@@ -125,7 +134,6 @@ final class BoundaryInstructionsTest {
     }
 
     private static void doublesTakeTheOneBehindThem() {
-        Check.sentence("of format D each with the one behind it, too");
         int[] latencies = {1, 2, 1, 4, 20, 3, 15};
         for (int e : new int[] {0, 2, 16, 30}) {
             for (int writer : writersOfDouble(e)) {
@@ -142,7 +150,6 @@ final class BoundaryInstructionsTest {
     }
 
     private static void doublesAreReadWhole() {
-        Check.sentence("of format D each with the one behind it, too");
         for (int e : new int[] {0, 2, 16, 30}) {
             for (int reader : readersOfDouble(e)) {
                 for (int fraction = e - 2; fraction <= e + 3; fraction++) {
@@ -161,7 +168,6 @@ final class BoundaryInstructionsTest {
     }
 
     private static void oddDoubles() {
-        Check.sentence("of format D ... an odd one there is none");
         for (int function : new int[] {0, 1, 2, 3}) {
             odd(Asm.D, function, FD | FS | FT);
         }
@@ -202,7 +208,6 @@ final class BoundaryInstructionsTest {
     }
 
     private static void resultsFormat() {
-        Check.sentence("fd, which is of the result's format, W as S");
         for (int function : new int[] {0x0c, 0x0d, 0x0e, 0x0f, 0x20, 0x24}) {
             int word = Asm.fraction(function, Asm.D, 2, 4, 0);
             Check.same("writes fd", 3, Blocks.lastOnFirst(word, Asm.mfc1(8, 2)));
@@ -219,7 +224,6 @@ final class BoundaryInstructionsTest {
     }
 
     private static void anyCondition() {
-        Check.sentence("C with any condition");
         for (int function = 0x30; function <= 0x3f; function++) {
             for (int format : new int[] {Asm.S, Asm.D}) {
                 // cc is the upper three bits of fd's place.
@@ -238,7 +242,6 @@ final class BoundaryInstructionsTest {
     }
 
     private static void formatsOfFractions() {
-        Check.sentence("FRACTION, of formats S and D ... CVT.S (of D, W), CVT.D (of S, W)");
         for (int format = 0; format < 32; format++) {
             boolean known = format == Asm.S || format == Asm.D;
             // 0, 4 and 8 are MFC1, MTC1 and BC1F.
@@ -259,7 +262,6 @@ final class BoundaryInstructionsTest {
     }
 
     private static void trapsFromFirstToLast() {
-        Check.sentence("traps (TGE .. TNE, TGEI .. TNEI)");
         int[] due = {8, 8, 8, 8, 8, NONE, 8, NONE};
         for (int k = 0; k < due.length; k++) {
             Check.same("function " + (0x30 + k), due[k],
@@ -271,7 +273,6 @@ final class BoundaryInstructionsTest {
     }
 
     private static void likelyOnes() {
-        Check.sentence("all these with L behind (LIKELY); J; JAL ... BLTZAL BGEZAL");
         int[] due = {7, 7, 7, 7, NONE, NONE, NONE, NONE};
         for (int k = 0; k < due.length; k++) {
             Check.same("BLTZ BGEZ and with L, rt " + k, due[k],
@@ -292,7 +293,6 @@ final class BoundaryInstructionsTest {
     }
 
     private static void fieldsNotLookedAt() {
-        Check.sentence("Fields that an instruction does not have are not looked at");
         int s = 31 << 21;
         int t = 31 << 16;
         int d = 31 << 11;
@@ -345,7 +345,6 @@ final class BoundaryInstructionsTest {
     }
 
     private static void singlesAlsoWhereADoubleIsMeant() {
-        Check.sentence("MFC1's, MTC1's, LWC1's and SWC1's fractions are single ones");
         int add = Asm.fraction(0, Asm.D, 2, 4, 6);
         for (int n = 0; n < 32; n++) {
             Check.same("MFC1 of " + n, 0, Blocks.kind(Asm.mfc1(8, n)));
@@ -370,7 +369,6 @@ final class BoundaryInstructionsTest {
     }
 
     private static void nop() {
-        Check.sentence("SLL with all fields 0 is NOP");
         Check.same("its class", 0, Blocks.kind(0));
         SlotFiller x = Blocks.of(Asm.lw(5, 0, 6), Asm.sw(5, 0, 6), Asm.NOP, Asm.addu(7, 5, 5),
                 Asm.NOP, Asm.jalr(31, 5));
@@ -384,7 +382,6 @@ final class BoundaryInstructionsTest {
     }
 
     private static void wordsAtTheEnds() {
-        Check.sentence("of these there are");
         Check.same("the lowest word, an LB", 1, Blocks.kind(Integer.MIN_VALUE));
         Check.same("the highest word", NONE, Blocks.kind(Integer.MAX_VALUE));
         Check.same("-1", NONE, Blocks.kind(-1));

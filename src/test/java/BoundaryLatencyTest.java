@@ -10,22 +10,26 @@ final class BoundaryLatencyTest {
     }
 
     public static void main(String[] args) {
-        atFirst();
-        ofTheOthersOne();
-        whatItWas();
-        classesOutside();
-        classesAtTheEnds();
-        cyclesOutside();
-        cyclesAtTheEnds();
-        bothOutside();
-        throwingChangesNothing();
-        eachObjectHasItsOwn();
-        staysThroughBlocks();
+        Check.sentence("the classes 0 .. 6: 1, 2, 1, 4, 20, 3, 15 at first",
+                BoundaryLatencyTest::atFirst);
+        Check.sentence("of the others 1", BoundaryLatencyTest::ofTheOthersOne);
+        Check.sentence("The latency of a class: what it was", BoundaryLatencyTest::whatItWas);
+        Check.sentence("IllegalArgumentException: it is not of 0 .. 6",
+                BoundaryLatencyTest::classesOutside);
+        Check.sentence("it is not of 0 .. 6", BoundaryLatencyTest::classesAtTheEnds);
+        Check.sentence("or cycles is not 1 .. 40", BoundaryLatencyTest::cyclesOutside);
+        Check.sentence("or cycles is not 1 .. 40", BoundaryLatencyTest::cyclesAtTheEnds);
+        Check.sentence("it is not of 0 .. 6, or cycles is not 1 .. 40",
+                BoundaryLatencyTest::bothOutside);
+        Check.sentence("a call that throws changes nothing",
+                BoundaryLatencyTest::throwingChangesNothing);
+        Check.sentence("1, 2, 1, 4, 20, 3, 15 at first", BoundaryLatencyTest::eachObjectHasItsOwn);
+        Check.sentence("The latency of a class: what it was",
+                BoundaryLatencyTest::staysThroughBlocks);
         Check.end();
     }
 
     private static void atFirst() {
-        Check.sentence("the classes 0 .. 6: 1, 2, 1, 4, 20, 3, 15 at first");
         SlotFiller x = new SlotFiller();
         for (int of = 0; of <= 6; of++) {
             Check.same("of " + of, FIRST[of], Blocks.of(ONE_OF_EACH[of]).height(0));
@@ -34,7 +38,6 @@ final class BoundaryLatencyTest {
     }
 
     private static void ofTheOthersOne() {
-        Check.sentence("of the others 1");
         for (int of = 7; of <= 8; of++) {
             SlotFiller x = Blocks.of(ONE_OF_EACH[of]);
             Check.same("of " + of, 1, x.height(0));
@@ -49,7 +52,6 @@ final class BoundaryLatencyTest {
     }
 
     private static void whatItWas() {
-        Check.sentence("The latency of a class: what it was");
         SlotFiller x = new SlotFiller();
         for (int of = 0; of <= 6; of++) {
             Check.same("first", FIRST[of], x.latency(of, 11 + of));
@@ -62,7 +64,6 @@ final class BoundaryLatencyTest {
     }
 
     private static void classesOutside() {
-        Check.sentence("IllegalArgumentException: it is not of 0 .. 6");
         SlotFiller x = new SlotFiller();
         for (int of : new int[] {-1, 7, 8, 9, 16, -7, Integer.MIN_VALUE, Integer.MAX_VALUE}) {
             for (int cycles : new int[] {1, 2, 40}) {
@@ -73,7 +74,6 @@ final class BoundaryLatencyTest {
     }
 
     private static void classesAtTheEnds() {
-        Check.sentence("it is not of 0 .. 6");
         SlotFiller x = Blocks.of(ONE_OF_EACH[0]);
         Check.same("latency(0, 9)", 1, x.latency(0, 9));
         Check.same("used", 9, x.height(0));
@@ -83,7 +83,6 @@ final class BoundaryLatencyTest {
     }
 
     private static void cyclesOutside() {
-        Check.sentence("or cycles is not 1 .. 40");
         SlotFiller x = new SlotFiller();
         for (int cycles : new int[] {0, -1, 41, -40, Integer.MIN_VALUE, Integer.MAX_VALUE}) {
             for (int of = 0; of <= 6; of++) {
@@ -95,7 +94,6 @@ final class BoundaryLatencyTest {
     }
 
     private static void cyclesAtTheEnds() {
-        Check.sentence("or cycles is not 1 .. 40");
         for (int of = 0; of <= 6; of++) {
             SlotFiller x = Blocks.of(ONE_OF_EACH[of]);
             for (int cycles : new int[] {1, 2, 39, 40}) {
@@ -107,7 +105,6 @@ final class BoundaryLatencyTest {
     }
 
     private static void bothOutside() {
-        Check.sentence("it is not of 0 .. 6, or cycles is not 1 .. 40");
         SlotFiller x = new SlotFiller();
         Check.refused("latency(-1, 0)", IllegalArgumentException.class, () -> x.latency(-1, 0));
         Check.refused("latency(7, 41)", IllegalArgumentException.class, () -> x.latency(7, 41));
@@ -116,7 +113,6 @@ final class BoundaryLatencyTest {
     }
 
     private static void throwingChangesNothing() {
-        Check.sentence("a call that throws changes nothing");
         SlotFiller x = Blocks.of(Asm.lw(5, 0, 6), Asm.addu(7, 5, 5), Asm.j());
         x.schedule(true, true);
         Check.refusedUnchanged("latency(1, 0)", IllegalArgumentException.class, x,
@@ -130,7 +126,6 @@ final class BoundaryLatencyTest {
     }
 
     private static void eachObjectHasItsOwn() {
-        Check.sentence("1, 2, 1, 4, 20, 3, 15 at first");
         SlotFiller x = new SlotFiller();
         for (int of = 0; of <= 6; of++) {
             x.latency(of, 33);
@@ -143,7 +138,6 @@ final class BoundaryLatencyTest {
     }
 
     private static void staysThroughBlocks() {
-        Check.sentence("The latency of a class: what it was");
         SlotFiller x = Blocks.of(Asm.lw(5, 0, 6));
         x.latency(1, 7);
         x.schedule(true, true);

@@ -4,18 +4,26 @@ final class BoundaryOrderTest {
     }
 
     public static void main(String[] args) {
-        ofNoneAndOfOne();
-        aCycleWithoutOne();
-        severalCyclesWithoutOne();
-        exactlySoManyCyclesAgo();
-        allOnWhichTheyDepend();
-        theGreatestHeight();
-        ofSeveralTheFirstOne();
-        theBranchIsLeftAside();
-        notWanted();
-        fortyInARow();
-        fortyBesideOneAnother();
-        byTheLatenciesOfNow();
+        Check.sentence("The ORDER: cycle by cycle, from 0 on", BoundaryOrderTest::ofNoneAndOfOne);
+        Check.sentence("in a cycle without one none comes", BoundaryOrderTest::aCycleWithoutOne);
+        Check.sentence("in a cycle without one none comes",
+                BoundaryOrderTest::severalCyclesWithoutOne);
+        Check.sentence("each at least so many cycles ago as it depends on it by",
+                BoundaryOrderTest::exactlySoManyCyclesAgo);
+        Check.sentence("of which all on which they depend were placed",
+                BoundaryOrderTest::allOnWhichTheyDepend);
+        Check.sentence("the one with the greatest height comes in this cycle",
+                BoundaryOrderTest::theGreatestHeight);
+        Check.sentence("of several the first one of the block",
+                BoundaryOrderTest::ofSeveralTheFirstOne);
+        Check.sentence("the branch left aside ... Then the branch",
+                BoundaryOrderTest::theBranchIsLeftAside);
+        Check.sentence("When it is not wanted, the order is the block's",
+                BoundaryOrderTest::notWanted);
+        Check.sentence("The ORDER: cycle by cycle, from 0 on", BoundaryOrderTest::fortyInARow);
+        Check.sentence("of several the first one of the block",
+                BoundaryOrderTest::fortyBesideOneAnother);
+        Check.sentence("the one with the greatest height", BoundaryOrderTest::byTheLatenciesOfNow);
         Check.end();
     }
 
@@ -32,14 +40,12 @@ final class BoundaryOrderTest {
     }
 
     private static void ofNoneAndOfOne() {
-        Check.sentence("The ORDER: cycle by cycle, from 0 on");
         Check.comes("of none", true, false, words());
         Check.comes("of one", true, false, words(Asm.div(5, 6)), 0);
         Check.comes("of a branch", true, false, words(Asm.j()), 0, -1);
     }
 
     private static void aCycleWithoutOne() {
-        Check.sentence("in a cycle without one none comes");
         // In cycle 1 none is ready; in cycle 2 both that read the load, the higher one first.
         Check.comes("both ready at once", true, true, words(Asm.lw(5, 0, 20), Asm.addu(6, 5, 5),
                 Asm.addu(7, 5, 5), Asm.addu(8, 7, 7)), 0, 2, 1, 3);
@@ -49,7 +55,6 @@ final class BoundaryOrderTest {
     }
 
     private static void severalCyclesWithoutOne() {
-        Check.sentence("in a cycle without one none comes");
         SlotFiller x = Check.comes("a DIV's wait", true, true,
                 words(Asm.div(5, 6), Asm.mflo(7), Asm.addu(8, 7, 7), Asm.lui(9, 1)), 0, 3, 1, 2);
         Check.same("eighteen are lost", 22, x.cycles());
@@ -59,7 +64,6 @@ final class BoundaryOrderTest {
     }
 
     private static void exactlySoManyCyclesAgo() {
-        Check.sentence("each at least so many cycles ago as it depends on it by");
         // ADDU 6 may come in cycle 2, not in cycle 1, and is then higher than LUI 9.
         Check.comes("a load's two", true, true, words(Asm.lw(5, 0, 20), Asm.addu(6, 5, 5),
                 Asm.addu(7, 6, 6), Asm.lui(8, 1), Asm.lui(9, 1), Asm.lui(10, 1)),
@@ -71,7 +75,9 @@ final class BoundaryOrderTest {
     }
 
     private static void allOnWhichTheyDepend() {
-        Check.sentence("of which all on which they depend were placed");
+        // In cycle 1 ADDU 6 has to wait, and ADDU 7 with it.
+        Check.comes("what waits for one that waits", true, true, words(Asm.lw(5, 0, 20),
+                Asm.addu(6, 5, 5), Asm.addu(7, 6, 6)), 0, 1, 2);
         // ADDU 7 is as high as the LUIs and before them, but both that it reads come first.
         Check.comes("of a load and a LUI", true, true, words(Asm.lw(6, 0, 20), Asm.lui(5, 1),
                 Asm.addu(7, 5, 6), Asm.lui(9, 1)), 0, 1, 2, 3);
@@ -81,7 +87,6 @@ final class BoundaryOrderTest {
     }
 
     private static void theGreatestHeight() {
-        Check.sentence("the one with the greatest height comes in this cycle");
         Check.comes("the last one of the block", true, true, words(Asm.lui(5, 1), Asm.lui(6, 1),
                 Asm.lw(7, 0, 20), Asm.div(8, 9)), 3, 2, 0, 1);
         Check.comes("each higher than the one before it", true, true, words(Asm.lui(5, 1),
@@ -90,7 +95,6 @@ final class BoundaryOrderTest {
     }
 
     private static void ofSeveralTheFirstOne() {
-        Check.sentence("of several the first one of the block");
         Check.comes("two loads before two LUIs", true, true, words(Asm.lui(5, 1),
                 Asm.lw(6, 0, 20), Asm.lui(7, 1), Asm.lw(8, 0, 20)), 1, 3, 0, 2);
         // In cycle 2 ADDU 6 has just become ready, LUI 8 has been so from 0 on.
@@ -99,7 +103,6 @@ final class BoundaryOrderTest {
     }
 
     private static void theBranchIsLeftAside() {
-        Check.sentence("the branch left aside ... Then the branch");
         // The branch would be ready in cycle 1, when MFLO is not.
         Check.comes("a branch that could come earlier", true, false,
                 words(Asm.div(5, 6), Asm.mflo(7), Asm.j()), 0, 1, 2, -1);
@@ -110,7 +113,6 @@ final class BoundaryOrderTest {
     }
 
     private static void notWanted() {
-        Check.sentence("When it is not wanted, the order is the block's");
         int[] words = words(Asm.lui(5, 1), Asm.lw(6, 0, 20), Asm.addu(7, 6, 6), Asm.div(8, 9));
         Check.comes("wanted", true, false, words, 3, 1, 0, 2);
         Check.comes("not wanted", false, false, words, 0, 1, 2, 3);
@@ -124,7 +126,6 @@ final class BoundaryOrderTest {
     }
 
     private static void fortyInARow() {
-        Check.sentence("The ORDER: cycle by cycle, from 0 on");
         SlotFiller x = Blocks.ofMany(40, Asm.lw(5, 0, 5));
         x.latency(1, 40);
         Check.same("all come, however long it takes", 40, x.schedule(true, true));
@@ -133,7 +134,6 @@ final class BoundaryOrderTest {
     }
 
     private static void fortyBesideOneAnother() {
-        Check.sentence("of several the first one of the block");
         SlotFiller x = Blocks.ofMany(40, Asm.NOP);
         x.schedule(true, true);
         Check.cameFrom("in the block's order", x, upTo(40));
@@ -141,7 +141,6 @@ final class BoundaryOrderTest {
     }
 
     private static void byTheLatenciesOfNow() {
-        Check.sentence("the one with the greatest height");
         SlotFiller x = Blocks.of(Asm.lui(5, 1), Asm.lw(6, 0, 20), Asm.mult(8, 9));
         x.schedule(true, true);
         Check.cameFrom("at first", x, 2, 1, 0);

@@ -7,25 +7,37 @@ final class BoundaryOutcomeTest {
     }
 
     public static void main(String[] args) {
-        withoutAnyInstruction();
-        theSameOneAgain();
-        theSameOneAgainWithOtherLatencies();
-        theSameOneAgainBehindARefusedAdd();
-        notAgainIfOneWasAdded();
-        noWordBeforeSchedule();
-        noSuchWord();
-        noSuchFrom();
-        fewerThanBefore();
-        fromIsOfTheBlockOfThen();
-        noneForANopThatCameOfItself();
-        instructionsOfTheBlock();
-        wordsThatCameOut();
-        anotherWhat();
+        Check.sentence("The block is through (also without any instruction)",
+                BoundaryOutcomeTest::withoutAnyInstruction);
+        Check.sentence("the same one again, if none was added since",
+                BoundaryOutcomeTest::theSameOneAgain);
+        Check.sentence("the same one again, if none was added since",
+                BoundaryOutcomeTest::theSameOneAgainWithOtherLatencies);
+        Check.sentence("the same one again, if none was added since",
+                BoundaryOutcomeTest::theSameOneAgainBehindARefusedAdd);
+        Check.sentence("the same one again, if none was added since",
+                BoundaryOutcomeTest::notAgainIfOneWasAdded);
+        Check.sentence("IndexOutOfBoundsException: there is none (nothing came out)",
+                BoundaryOutcomeTest::noWordBeforeSchedule);
+        Check.sentence("Word k of what came out. IndexOutOfBoundsException: there is none",
+                BoundaryOutcomeTest::noSuchWord);
+        Check.sentence("Which instruction ... it was. IndexOutOfBoundsException: likewise",
+                BoundaryOutcomeTest::noSuchFrom);
+        Check.sentence("IndexOutOfBoundsException: there is none (fewer than before)",
+                BoundaryOutcomeTest::fewerThanBefore);
+        Check.sentence("Which instruction of the block it was",
+                BoundaryOutcomeTest::fromIsOfTheBlockOfThen);
+        Check.sentence("NONE for a NOP that came of itself",
+                BoundaryOutcomeTest::noneForANopThatCameOfItself);
+        Check.sentence("Instructions of the block (0)",
+                BoundaryOutcomeTest::instructionsOfTheBlock);
+        Check.sentence("words that came out (1) ... NOPs (2) ... filled (3)",
+                BoundaryOutcomeTest::wordsThatCameOut);
+        Check.sentence("NONE for another what", BoundaryOutcomeTest::anotherWhat);
         Check.end();
     }
 
     private static void withoutAnyInstruction() {
-        Check.sentence("The block is through (also without any instruction)");
         for (boolean ordering : BOTH) {
             for (boolean filling : BOTH) {
                 SlotFiller x = new SlotFiller();
@@ -41,7 +53,6 @@ final class BoundaryOutcomeTest {
     }
 
     private static void theSameOneAgain() {
-        Check.sentence("the same one again, if none was added since");
         SlotFiller x = Blocks.of(Asm.lui(5, 1), Asm.lw(6, 0, 20), Asm.addu(7, 6, 6), Asm.j());
         for (int times = 0; times < 3; times++) {
             Check.same("ordered, filled", 4, x.schedule(true, true));
@@ -57,7 +68,6 @@ final class BoundaryOutcomeTest {
     }
 
     private static void theSameOneAgainWithOtherLatencies() {
-        Check.sentence("the same one again, if none was added since");
         SlotFiller x = Blocks.of(Asm.lui(5, 1), Asm.lw(6, 0, 20), Asm.j());
         x.schedule(true, false);
         Check.cameFrom("at first", x, 1, 0, 2, NONE);
@@ -68,7 +78,6 @@ final class BoundaryOutcomeTest {
     }
 
     private static void theSameOneAgainBehindARefusedAdd() {
-        Check.sentence("the same one again, if none was added since");
         SlotFiller x = Blocks.of(Asm.lw(6, 0, 20), Asm.addu(7, 6, 6), Asm.j());
         x.schedule(true, true);
         Check.refused("refused", IllegalArgumentException.class, () -> x.add(-1));
@@ -77,7 +86,6 @@ final class BoundaryOutcomeTest {
     }
 
     private static void notAgainIfOneWasAdded() {
-        Check.sentence("the same one again, if none was added since");
         SlotFiller x = Blocks.of(Asm.lw(6, 0, 20), Asm.addu(7, 6, 6), Asm.j());
         x.schedule(true, true);
         x.add(Asm.lui(5, 1));
@@ -87,7 +95,6 @@ final class BoundaryOutcomeTest {
     }
 
     private static void noWordBeforeSchedule() {
-        Check.sentence("IndexOutOfBoundsException: there is none (nothing came out)");
         SlotFiller x = Blocks.of(Asm.lui(5, 1), Asm.j());
         for (int k = -1; k <= 2; k++) {
             int which = k;
@@ -99,7 +106,6 @@ final class BoundaryOutcomeTest {
     }
 
     private static void noSuchWord() {
-        Check.sentence("Word k of what came out. IndexOutOfBoundsException: there is none");
         for (int size : new int[] {1, 2, 39, 40}) {
             SlotFiller x = Blocks.ofMany(size, Asm.lui(5, size));
             x.schedule(true, true);
@@ -113,7 +119,6 @@ final class BoundaryOutcomeTest {
     }
 
     private static void noSuchFrom() {
-        Check.sentence("Which instruction ... it was. IndexOutOfBoundsException: likewise");
         for (int size : new int[] {1, 2, 39, 40}) {
             SlotFiller x = Blocks.ofMany(size, Asm.lui(5, size));
             x.schedule(true, true);
@@ -131,7 +136,6 @@ final class BoundaryOutcomeTest {
     }
 
     private static void fewerThanBefore() {
-        Check.sentence("IndexOutOfBoundsException: there is none (fewer than before)");
         SlotFiller x = Blocks.ofMany(39, Asm.lui(5, 1));
         x.add(Asm.j());
         x.schedule(true, false);
@@ -148,7 +152,6 @@ final class BoundaryOutcomeTest {
     }
 
     private static void fromIsOfTheBlockOfThen() {
-        Check.sentence("Which instruction of the block it was");
         SlotFiller x = Blocks.of(Asm.lui(5, 1), Asm.lw(6, 0, 20), Asm.div(7, 8));
         x.schedule(true, true);
         x.add(Asm.NOP);
@@ -157,7 +160,6 @@ final class BoundaryOutcomeTest {
     }
 
     private static void noneForANopThatCameOfItself() {
-        Check.sentence("NONE for a NOP that came of itself");
         SlotFiller x = Blocks.of(Asm.NOP, Asm.lui(5, 1), Asm.beq(5, 0));
         x.schedule(false, false);
         Check.cameFrom("one of the block, one of itself", x, 0, 1, 2, NONE);
@@ -170,7 +172,6 @@ final class BoundaryOutcomeTest {
     }
 
     private static void instructionsOfTheBlock() {
-        Check.sentence("Instructions of the block (0)");
         SlotFiller x = new SlotFiller();
         for (int i = 0; i < 40; i++) {
             Check.same("before add " + i, i, x.count(0));
@@ -184,7 +185,6 @@ final class BoundaryOutcomeTest {
     }
 
     private static void wordsThatCameOut() {
-        Check.sentence("words that came out (1) ... NOPs (2) ... filled (3)");
         SlotFiller x = Blocks.of(Asm.lui(5, 1), Asm.j());
         counts("not through", x, 2, 0, 0, 0);
         x.schedule(true, false);
@@ -207,7 +207,6 @@ final class BoundaryOutcomeTest {
     }
 
     private static void anotherWhat() {
-        Check.sentence("NONE for another what");
         SlotFiller x = new SlotFiller();
         SlotFiller y = Blocks.of(Asm.lui(5, 1), Asm.j());
         y.schedule(true, true);

@@ -14,20 +14,28 @@ final class BoundarySlotTest {
     }
 
     public static void main(String[] args) {
-        noBranchNoSlot();
-        fillingIsNotWanted();
-        likelyBranches();
-        branchesThatAreNotLikely();
-        aBranchAlone();
-        neededByTheBranch();
-        neededByOthers();
-        barriers();
-        theLastOneInTheOrder();
-        theFirstOneInTheOrder();
-        ofEachClass();
-        aNopOfTheBlock();
-        aNopOfItself();
-        inABlockOfForty();
+        Check.sentence("The SLOT, behind a branch that is there", BoundarySlotTest::noBranchNoSlot);
+        Check.sentence("if filling is wanted ... Otherwise ... a NOP comes behind it",
+                BoundarySlotTest::fillingIsNotWanted);
+        Check.sentence("and the branch isn't likely ... Otherwise ... a NOP comes behind it",
+                BoundarySlotTest::likelyBranches);
+        Check.sentence("and the branch isn't likely", BoundarySlotTest::branchesThatAreNotLikely);
+        Check.sentence("or when there is none, a NOP comes behind it",
+                BoundarySlotTest::aBranchAlone);
+        Check.sentence("on which none depends", BoundarySlotTest::neededByTheBranch);
+        Check.sentence("on which none depends", BoundarySlotTest::neededByOthers);
+        Check.sentence("and that is no BARRIER", BoundarySlotTest::barriers);
+        Check.sentence("the last one in the order (the branch left aside)",
+                BoundarySlotTest::theLastOneInTheOrder);
+        Check.sentence("leaves its place and comes behind the branch",
+                BoundarySlotTest::theFirstOneInTheOrder);
+        Check.sentence("and that is no BARRIER, leaves its place", BoundarySlotTest::ofEachClass);
+        Check.sentence("NONE for a NOP that came of itself; filled by one of the block",
+                BoundarySlotTest::aNopOfTheBlock);
+        Check.sentence("a NOP (the word 0, of class PLAIN) comes behind it",
+                BoundarySlotTest::aNopOfItself);
+        Check.sentence("The SLOT, behind a branch that is there",
+                BoundarySlotTest::inABlockOfForty);
         Check.end();
     }
 
@@ -41,7 +49,6 @@ final class BoundarySlotTest {
     }
 
     private static void noBranchNoSlot() {
-        Check.sentence("The SLOT, behind a branch that is there");
         counts("of none", Check.comes("of none", true, true, words()), 0, 0);
         counts("of one", Check.comes("of one", true, true, words(Asm.lui(5, 1)), 0), 0, 0);
         int[] two = words(Asm.lui(5, 1), Asm.lui(6, 1));
@@ -52,7 +59,6 @@ final class BoundarySlotTest {
     }
 
     private static void fillingIsNotWanted() {
-        Check.sentence("if filling is wanted ... Otherwise ... a NOP comes behind it");
         for (int branch : NOT_LIKELY) {
             for (boolean ordering : new boolean[] {true, false}) {
                 SlotFiller x = Check.comes("not wanted", ordering, false,
@@ -63,7 +69,6 @@ final class BoundarySlotTest {
     }
 
     private static void likelyBranches() {
-        Check.sentence("and the branch isn't likely ... Otherwise ... a NOP comes behind it");
         for (int branch : LIKELY) {
             for (boolean ordering : new boolean[] {true, false}) {
                 String name = Integer.toHexString(branch);
@@ -75,7 +80,6 @@ final class BoundarySlotTest {
     }
 
     private static void branchesThatAreNotLikely() {
-        Check.sentence("and the branch isn't likely");
         for (int branch : NOT_LIKELY) {
             for (boolean ordering : new boolean[] {true, false}) {
                 String name = Integer.toHexString(branch);
@@ -87,7 +91,6 @@ final class BoundarySlotTest {
     }
 
     private static void aBranchAlone() {
-        Check.sentence("or when there is none, a NOP comes behind it");
         for (int branch : NOT_LIKELY) {
             counts("alone", Check.comes("alone", true, true, words(branch), 0, NONE), 1, 0);
         }
@@ -97,7 +100,6 @@ final class BoundarySlotTest {
     }
 
     private static void neededByTheBranch() {
-        Check.sentence("on which none depends");
         int[][] pairs = {{Asm.lui(20, 1), Asm.beq(20, 0)}, {Asm.lui(20, 1), Asm.beq(0, 20)},
             {Asm.lui(20, 1), Asm.jr(20)}, {Asm.addu(5, 31, 0), Asm.jal()},
             {Asm.lui(31, 1), Asm.jal()}, {Asm.addu(5, 9, 0), Asm.jalr(9, 20)},
@@ -110,7 +112,6 @@ final class BoundarySlotTest {
     }
 
     private static void neededByOthers() {
-        Check.sentence("on which none depends");
         Check.comes("a chain to the branch", true, true, words(Asm.lui(5, 1), Asm.lw(6, 0, 5),
                 Asm.addu(7, 6, 6), Asm.beq(7, 0)), 0, 1, 2, 3, NONE);
         Check.comes("the one that is read stays, the reader goes", true, true,
@@ -122,7 +123,6 @@ final class BoundarySlotTest {
     }
 
     private static void barriers() {
-        Check.sentence("and that is no BARRIER");
         for (int barrier : new int[] {Asm.sync(), Asm.syscall(), Asm.special(0x20, 5, 6, 7),
             Asm.immediate(0x38, 5, 6, 4), Asm.immediate(1, 5, 8, 4)}) {
             counts("alone", Check.comes("alone", true, true, words(barrier, Asm.j()), 0, 1, NONE),
@@ -136,7 +136,6 @@ final class BoundarySlotTest {
     }
 
     private static void theLastOneInTheOrder() {
-        Check.sentence("the last one in the order (the branch left aside)");
         int[] words = words(Asm.lui(5, 1), Asm.lw(6, 0, 20), Asm.mult(7, 8), Asm.j());
         Check.comes("of the block's order", false, true, words, 0, 1, 3, 2);
         Check.comes("of the order by heights", true, true, words, 2, 1, 3, 0);
@@ -145,14 +144,12 @@ final class BoundarySlotTest {
     }
 
     private static void theFirstOneInTheOrder() {
-        Check.sentence("leaves its place and comes behind the branch");
         Check.comes("it alone can be spared", false, true, words(Asm.lui(5, 1), Asm.lui(6, 1),
                 Asm.lw(7, 0, 6), Asm.beq(7, 0)), 1, 2, 3, 0);
         Check.comes("the only one", true, true, words(Asm.lui(5, 1), Asm.j()), 1, 0);
     }
 
     private static void ofEachClass() {
-        Check.sentence("and that is no BARRIER, leaves its place");
         int[] each = {Asm.lui(5, 1), Asm.lw(5, 0, 6), Asm.sw(5, 0, 6), Asm.mult(5, 6),
             Asm.div(5, 6), Asm.fraction(0, Asm.S, 1, 2, 3), Asm.fraction(4, Asm.D, 2, 4, 0)};
         for (int word : each) {
@@ -163,7 +160,6 @@ final class BoundarySlotTest {
     }
 
     private static void aNopOfTheBlock() {
-        Check.sentence("NONE for a NOP that came of itself; filled by one of the block");
         SlotFiller x = Check.comes("a NOP of the block", true, true,
                 words(Asm.NOP, Asm.j()), 1, 0);
         counts("a NOP of the block", x, 0, 1);
@@ -175,7 +171,6 @@ final class BoundarySlotTest {
     }
 
     private static void aNopOfItself() {
-        Check.sentence("a NOP (the word 0, of class PLAIN) comes behind it");
         SlotFiller x = Blocks.of(Asm.lui(5, 1), Asm.j());
         x.schedule(true, false);
         Check.same("its word", 0, x.word(2));
@@ -184,7 +179,6 @@ final class BoundarySlotTest {
     }
 
     private static void inABlockOfForty() {
-        Check.sentence("The SLOT, behind a branch that is there");
         SlotFiller x = Blocks.ofMany(39, Asm.lui(5, 1));
         x.add(Asm.j());
         Check.same("filled", 40, x.schedule(true, true));

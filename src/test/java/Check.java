@@ -1,10 +1,13 @@
+import java.util.Arrays;
 import java.util.List;
 
 /** Counts and prints what is not as due; a test ends by calling end(). */
 final class Check {
+    private static final int MOST_TOLD = 20;
     private static int wrong = 0;
     private static int asked = 0;
     private static String sentence = "";
+    private static int wrongInSentence = 0;
 
     private Check() {
     }
@@ -13,9 +16,15 @@ final class Check {
         long run();
     }
 
-    /** The document's words that the checks from here on are about; told with what is wrong. */
-    static void sentence(String words) {
+    /** The document's words that a test is about: told with what is wrong there. */
+    static void sentence(String words, Runnable test) {
         sentence = "[" + words + "] ";
+        wrongInSentence = 0;
+        try {
+            test.run();
+        } catch (RuntimeException e) {
+            tell("threw " + e + " at " + Arrays.asList(e.getStackTrace()));
+        }
     }
 
     static void same(String what, long want, long got) {
@@ -90,7 +99,8 @@ final class Check {
 
     private static void tell(String text) {
         wrong++;
-        if (wrong <= 50) {
+        wrongInSentence++;
+        if (wrongInSentence <= MOST_TOLD) {
             System.out.println(sentence + text);
         }
     }

@@ -27,12 +27,15 @@ final class RandomCallsTest {
         Random random = new Random(512);
         for (int object = 0; object < OBJECTS; object++) {
             RandomCallsTest test = new RandomCallsTest(random);
-            Check.sentence("object " + object);
-            for (int call = 0; call < MOST_CALLS; call++) {
-                test.call();
-            }
+            Check.sentence("object " + object, test::allCalls);
         }
         Check.end();
+    }
+
+    private void allCalls() {
+        for (int call = 0; call < MOST_CALLS; call++) {
+            call();
+        }
     }
 
     private void call() {
